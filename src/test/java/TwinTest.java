@@ -32,7 +32,7 @@ public final class TwinTest {
         for (int i = dice.nextInt(12); i > 0; i--) {
             tellTransfer();
         }
-        for (int call = 40; call < CALLS && check.isClean(); call++) {
+        for (int call = 44; call < CALLS && check.isClean(); call++) {
             int what = dice.nextInt(100);
             if (what < turns) {
                 turnOne();
