@@ -683,8 +683,8 @@ public final class BusBridge {
         private static final int IN_ADDRESS = 1, IN_DATA = 2, DONE = 3, DONE_BADLY = 4, CANCELLED = 5;
 
         final Table rows = new Table(MOST_TRANSFERS, COLUMNS);
-        private int addressed;
-        private int dated;
+        private int inAddress;
+        private int inData;
         private int next;
         private int gapGone;
         int done;
@@ -692,8 +692,8 @@ public final class BusBridge {
 
         void clear() {
             rows.clear();
-            addressed = -1;
-            dated = -1;
+            inAddress = -1;
+            inData = -1;
             next = 0;
             gapGone = 0;
             done = 0;
@@ -702,8 +702,8 @@ public final class BusBridge {
 
         void copyFrom(Master other) {
             rows.copyFrom(other.rows);
-            addressed = other.addressed;
-            dated = other.dated;
+            inAddress = other.inAddress;
+            inData = other.inData;
             next = other.next;
             gapGone = other.gapGone;
             done = other.done;
@@ -731,28 +731,28 @@ public final class BusBridge {
                 endData(wires, time);
                 moveToData(wires);
                 beginNext(wires, time);
-            } else if (wires.seen[Wires.RESP] != 0 && addressed >= 0) {
+            } else if (wires.seen[Wires.RESP] != 0 && inAddress >= 0) {
                 cancel(wires);
             }
         }
 
         private void endData(Wires wires, int time) {
-            if (dated >= 0) {
-                rows.put(dated, HOW, wires.seen[Wires.RESP] != 0 ? DONE_BADLY : DONE);
-                rows.put(dated, GOT, wires.seen[Wires.RDATA]);
-                rows.put(dated, DONE_AT, time);
+            if (inData >= 0) {
+                rows.put(inData, HOW, wires.seen[Wires.RESP] != 0 ? DONE_BADLY : DONE);
+                rows.put(inData, GOT, wires.seen[Wires.RDATA]);
+                rows.put(inData, DONE_AT, time);
                 done++;
             }
-            dated = -1;
+            inData = -1;
         }
 
         private void moveToData(Wires wires) {
-            dated = addressed;
-            addressed = -1;
-            if (dated >= 0) {
-                rows.put(dated, HOW, IN_DATA);
-                if (rows.get(dated, IS_WRITE) != 0) {
-                    wires.driven[Wires.WDATA] = rows.get(dated, DATA);
+            inData = inAddress;
+            inAddress = -1;
+            if (inData >= 0) {
+                rows.put(inData, HOW, IN_DATA);
+                if (rows.get(inData, IS_WRITE) != 0) {
+                    wires.driven[Wires.WDATA] = rows.get(inData, DATA);
                 }
             }
         }
@@ -764,21 +764,21 @@ public final class BusBridge {
                 gapGone++;
                 wires.driven[Wires.TRANS] = 0;
             } else {
-                addressed = next;
+                inAddress = next;
                 next++;
                 gapGone = 0;
-                rows.put(addressed, HOW, IN_ADDRESS);
-                rows.put(addressed, SHOWN_AT, time + 1);
-                wires.driven[Wires.ADDR] = rows.get(addressed, ADDRESS);
-                wires.driven[Wires.WRITE] = rows.get(addressed, IS_WRITE);
-                wires.driven[Wires.TRANS] = rows.get(addressed, KIND);
+                rows.put(inAddress, HOW, IN_ADDRESS);
+                rows.put(inAddress, SHOWN_AT, time + 1);
+                wires.driven[Wires.ADDR] = rows.get(inAddress, ADDRESS);
+                wires.driven[Wires.WRITE] = rows.get(inAddress, IS_WRITE);
+                wires.driven[Wires.TRANS] = rows.get(inAddress, KIND);
             }
         }
 
         /** All behind the one in the ADDRESS phase are still to come, so the next one moves on past them. */
         private void cancel(Wires wires) {
-            strike(addressed);
-            addressed = -1;
+            strike(inAddress);
+            inAddress = -1;
             wires.driven[Wires.TRANS] = 0;
             while (next < rows.count && rows.get(next, KIND) == Wires.NEXT_KIND) {
                 strike(next);

@@ -27,6 +27,7 @@ public final class FaceTest {
         members();
         source();
         anyNumbers();
+        allFull();
         room();
         check.close();
     }
@@ -149,6 +150,40 @@ public final class FaceTest {
             x.bridge(a);
             x.told(b);
         }
+    }
+
+    /** Eight SLAVES, 48 REGISTERS, 60 TRANSFERS, four POSTED, and more ACTS and FINDINGS than are kept. */
+    private static void allFull() {
+        BusBridge x = new BusBridge();
+        for (int s = 0; s < 8; s++) {
+            x.slave(s * 32, s * 32 + 28, s == 3 ? 15 : 0, false);
+        }
+        for (int r = 0; r < 48; r++) {
+            x.register(r * 4, r % 7, 0);
+        }
+        x.depth(4);
+        for (int t = 0; t < 60; t++) {
+            x.transfer(t * 4, t % 5 != 0, t, 2, 0);
+        }
+        x.transfer(0, false, 0, 2, 0);
+        x.keep(0);
+        check.due("differs(0)", x.differs(0), BusBridge.NONE);
+        for (int i = 0; i < 8; i++) {
+            x.turn(2, 2, 100);
+            x.turn(8, 3, 50);
+            x.clock(99);
+        }
+        x.finish(2000);
+        check.due("told(0)", x.told(0), 8);
+        check.due("told(1)", x.told(1), 48);
+        check.due("told(5)", x.told(5), 200);
+        check.due("told(6)", x.told(6), 60);
+        check.due("again()", x.again(), BusBridge.FULL);
+        check.due("back(0)", x.back(0), 0);
+        check.due("differs(0)", x.differs(0), BusBridge.NONE);
+        check.due("finish(2000) < 2000", x.finish(2000) < 2000 ? 1 : 0, 1);
+        check.due("again()", x.again(), BusBridge.NONE);
+        check.due("told(3) and told(4)", x.told(3) + x.told(4), 60);
     }
 
     /** The room of a run is counted in fields and elements: calls make nothing but what is kept. */

@@ -12,6 +12,9 @@ public final class MapTest {
         depths();
         limits();
         resets();
+        resetCounts();
+        resetOfSlaves();
+        resetOfMonitors();
         values();
         ranges();
         check.close();
@@ -183,6 +186,54 @@ public final class MapTest {
         x.clock(3);
         check.due("wire(6)", x.wire(6), 0);
         check.due("told(2)", x.told(2), 0);
+    }
+
+    /** What would be seen only later: GAPs gone by, how many CANCELLED, TIMEOUTS, rows used before. */
+    private static void resetCounts() {
+        BusBridge x = new BusBridge();
+        x.slave(0, 28, 0, true);
+        x.limit(4);
+        x.transfer(0, false, 0, 2, 0);
+        x.transfer(0, true, 0, 2, 0);
+        x.transfer(0, true, 0, 2, 7);
+        x.clock(12);
+        check.due("told(4)", x.told(4), 1);
+        check.due("bridge(4)", x.bridge(4), 1);
+        x.reset();
+        check.due("told(4) behind reset()", x.told(4), 0);
+        check.due("bridge(4) behind reset()", x.bridge(4), 0);
+        x.transfer(0, false, 0, 2, 2);
+        check.due("result(0, 0)", x.result(0, 0), 0);
+        check.due("result(0, 3)", x.result(0, 3), BusBridge.NONE);
+        x.clock(3);
+        check.due("result(0, 2): the whole GAP", x.result(0, 2), 3);
+        x.clock(1);
+        check.due("log(0, 6)", x.log(0, 6), 0);
+        check.due("log(0, 5)", x.log(0, 5), BusBridge.NONE);
+    }
+
+    private static void resetOfSlaves() {
+        BusBridge x = new BusBridge();
+        x.slave(0, 28, 9, false);
+        x.transfer(0, false, 0, 2, 0);
+        x.clock(4);
+        x.reset();
+        x.transfer(0, false, 0, 2, 0);
+        x.clock(1);
+        x.turn(8, 1, 1);
+        x.clock(2);
+        check.due("wire(12): ENABLE in SETUP by hand, and the SLAVE counts 0", x.wire(12), 1);
+    }
+
+    private static void resetOfMonitors() {
+        BusBridge x = new BusBridge();
+        x.turn(4, 1, 100);
+        x.clock(61);
+        x.reset();
+        x.turn(4, 1, 60);
+        x.clock(61);
+        check.due("findings(7): 60 clocks on each side of reset()", x.findings(7), 0);
+        check.due("findings(6)", x.findings(6), 60);
     }
 
     private static void asAtFirst(BusBridge x) {

@@ -176,8 +176,10 @@ public final class MasterTest {
         BusBridge y = withSlave(0);
         y.transfer(0, false, 0, 2, 0);
         y.transfer(4, false, 0, 2, 1);
+        y.transfer(8, false, 0, 2, 1);
         y.finish(100);
         check.due("result(1, 2)", y.result(1, 2), 5);
+        check.due("result(2, 2): a GAP of its own", y.result(2, 2), 9);
     }
 
     private static void gapsSinceItIsNext() {
@@ -265,6 +267,13 @@ public final class MasterTest {
         check.due("result(1, 0)", x.result(1, 0), 5);
         check.due("finish(100)", x.finish(100), 2);
         check.due("result(0, 0)", x.result(0, 0), 3);
+        BusBridge z = withSlave(0);
+        z.transfer(0, false, 0, 2, 0);
+        z.turn(4, 1, 1);
+        z.turn(5, 1, 1);
+        z.clock(2);
+        check.due("result(0, 0): the first of all is CANCELLED", z.result(0, 0), 5);
+        check.due("wire(2)", z.wire(2), 0);
         BusBridge y = withSlave(0);
         y.transfer(0, false, 0, 2, 0);
         y.clock(3);

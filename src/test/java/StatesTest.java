@@ -7,6 +7,8 @@ public final class StatesTest {
         goesOnAlike();
         placesAreApart();
         keptStays();
+        keptTurned();
+        keptMonitors();
         mapChanged();
         sameDepthIsNoChange();
         places();
@@ -120,6 +122,45 @@ public final class StatesTest {
         check.due("all behind back()", sum(x), here);
     }
 
+    private static void keptTurned() {
+        BusBridge x = new BusBridge();
+        x.turn(6, 5, 4);
+        x.clock(2);
+        x.keep(0);
+        x.clock(9);
+        x.turn(6, 3, 100);
+        x.back(0);
+        check.due("wire(6) in clock 2", x.wire(6), 5);
+        x.clock(2);
+        check.due("wire(6) in clock 4", x.wire(6), 5);
+        x.clock(1);
+        check.due("wire(6) in clock 5", x.wire(6), 0);
+    }
+
+    private static void keptMonitors() {
+        BusBridge x = new BusBridge();
+        x.slave(0, 28, 9, false);
+        x.turn(4, 1, 100);
+        x.clock(61);
+        x.keep(0);
+        x.reset();
+        x.clock(5);
+        x.back(0);
+        x.clock(40);
+        check.due("findings(7): 60 clocks low as it was kept, 40 behind it", x.findings(7), 1);
+        x.reset();
+        x.transfer(0, true, 5, 2, 0);
+        x.clock(4);
+        x.keep(0);
+        x.reset();
+        x.transfer(0, false, 5, 2, 0);
+        x.clock(4);
+        x.back(0);
+        x.turn(3, 1, 1);
+        x.clock(3);
+        check.due("findings(3): the DATA phase is a write's", x.findings(3), 2);
+    }
+
     private static void stale(String what, BusBridge x) {
         check.refused("back(1) behind " + what, x, x.back(1), BusBridge.STATE);
         check.refused("differs(1) behind " + what, x, x.differs(1), BusBridge.STATE);
@@ -214,6 +255,13 @@ public final class StatesTest {
         check.well("differs(0)", x, x.differs(0), 15);
         x.reset();
         check.well("differs(0) behind reset()", x, x.differs(0), NONE);
+        BusBridge y = new BusBridge();
+        y.slave(0, 28, 0, false);
+        y.register(4, 4, 1);
+        y.register(8, 0, 1);
+        y.keep(0);
+        y.clock(2);
+        check.well("differs(0) by the first REGISTER alone", y, y.differs(0), 15);
     }
 
     private static void told() {

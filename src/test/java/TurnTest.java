@@ -15,6 +15,7 @@ public final class TurnTest {
         twoSlaves();
         greatestIsBroken();
         strangerSelected();
+        answersEnd();
         addressBelowByHand();
         check.close();
     }
@@ -253,6 +254,11 @@ public final class TurnTest {
         x.finish(100);
         check.due("log(0, 3)", x.log(0, 3), 0);
         check.due("log(0, 5)", x.log(0, 5), 4);
+        x.reset();
+        x.turn(7, 3, 1);
+        x.turn(10, 1, 1);
+        x.clock(2);
+        check.due("wire(13): the ERROR of SLAVE 0 is not told", x.wire(13), 0);
     }
 
     private static void strangerSelected() {
@@ -266,6 +272,40 @@ public final class TurnTest {
         check.due("wire(12): no SLAVE's bit", x.wire(12), 0);
         x.clock(4);
         check.due("bridge(4)", x.bridge(4), 1);
+    }
+
+    /** PREADY, PERROR and PRDATA clock by clock with SEL taken away and given by hand. */
+    private static void answersEnd() {
+        BusBridge x = withSlaves(0);
+        x.transfer(0, false, 0, 2, 0);
+        x.transfer(8, true, 5, 2, 0);
+        x.clock(6);
+        check.due("wire(12) ahead of the write", x.wire(12), 0);
+        check.due("wire(14)", x.wire(14), 70);
+        x.clock(1);
+        check.due("wire(12) of a write", x.wire(12), 1);
+        check.due("wire(13) where there is no REGISTER", x.wire(13), 1);
+        check.due("wire(14) of a write", x.wire(14), 0);
+        x.reset();
+        x.turn(7, 1, 1);
+        x.turn(10, 1, 1);
+        x.turn(9, 8, 1);
+        x.clock(2);
+        check.due("wire(12) by hand", x.wire(12), 1);
+        check.due("wire(13) by hand", x.wire(13), 1);
+        x.clock(1);
+        check.due("wire(12) with no SLAVE's bit", x.wire(12), 0);
+        check.due("wire(13) with no SLAVE's bit", x.wire(13), 0);
+        // SLAVE 0 answers with an ERROR, SLAVE 1, the greater one, with none.
+        x.reset();
+        x.turn(7, 3, 1);
+        x.turn(9, 32, 1);
+        x.turn(10, 1, 1);
+        x.turn(11, 4, 1);
+        x.clock(2);
+        check.due("wire(12) of two", x.wire(12), 1);
+        check.due("wire(13) of two", x.wire(13), 0);
+        check.due("value(32)", x.value(32), 4);
     }
 
     private static void addressBelowByHand() {
