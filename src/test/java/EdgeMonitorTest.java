@@ -249,9 +249,6 @@ public final class EdgeMonitorTest {
         x.reset();
         x.turn(READY, 1, 99);
         x.clock(100);
-        x.reset();
-        x.turn(READY, 1, 99);
-        x.clock(100);
         check.due("findings(7) of 99 clocks on each side of reset()", x.findings(7), 0);
         // READY 0 by LIMIT: two ACTS of 60 clocks behind each other, more than 100 clocks in a row.
         BusBridge y = new BusBridge();

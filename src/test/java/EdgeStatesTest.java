@@ -22,6 +22,7 @@ public final class EdgeStatesTest {
         againCounters();
         againCounterWraps();
         againCounterWritten();
+        againTwice();
         againNotOver();
         againTimeoutOfAWrite();
         keepPlaces();
@@ -42,6 +43,9 @@ public final class EdgeStatesTest {
         differsLastRegister();
         toldEnds();
         statusOfEach();
+        lastCalls();
+        lastCallsWithFindings();
+        lastCallsWithStates();
         check.close();
     }
 
@@ -204,6 +208,20 @@ public final class EdgeStatesTest {
         // Written in clock 3; the read's SETUP is in clock 6.
         check.due("log(1, 3)", x.log(1, 3), MIN + 1);
         check.well("again()", x, x.again(), NONE);
+    }
+
+    /** A write of a COUNTER is the last ACT: played once more, THE LOG begins as at first all the same. */
+    private static void againTwice() {
+        BusBridge x = withSlave(0);
+        x.transfer(8, false, 0, 2, 0);
+        x.transfer(4, true, 1, 2, 0);
+        x.transfer(8, true, 5, 2, 0);
+        x.finish(100);
+        for (int i = 0; i < 3; i++) {
+            check.well("again()", x, x.again(), NONE);
+        }
+        check.due("value(4)", x.value(4), 1);
+        check.due("told(5)", x.told(5), 3);
     }
 
     /** "each ACT that is over by 1 or 2": one under way and a TIMEOUT are passed over. */
@@ -691,5 +709,42 @@ public final class EdgeStatesTest {
         x.clock(1);
         check.due("wire(14), which is -1", x.wire(14), -1);
         check.due("status() of an answer that is -1", x.status(), 0);
+    }
+
+    /** "An object is used for at most 512 calls": the 511th and 512th still answer as due. */
+    private static void lastCalls() {
+        BusBridge x = new BusBridge();
+        x.slave(0, 0, 0, false);
+        x.register(0, COUNTER, MAX - 253999);
+        for (int i = 0; i < 508; i++) {
+            x.clock(500);
+        }
+        check.due("value(0), call 511", x.value(0), MIN);
+        check.due("told(7), call 512", x.told(7), 254000);
+    }
+
+    private static void lastCallsWithFindings() {
+        BusBridge x = new BusBridge();
+        for (int i = 0; i < 254; i++) {
+            x.turn(4, 1, 100);
+            x.clock(101);
+        }
+        check.due("findings(0)", x.findings(0), 254 * 101);
+        check.due("findings(6)", x.findings(6), 254 * 100);
+        check.due("findings(7), call 511", x.findings(7), 254);
+        check.due("told(6), call 512", x.told(6), 60);
+    }
+
+    private static void lastCallsWithStates() {
+        BusBridge x = withSlave(0);
+        x.transfer(4, false, 0, 2, 0);
+        for (int i = 0; i < 168; i++) {
+            x.keep(i % 3);
+            x.clock(2);
+            x.back(i % 3);
+        }
+        x.finish(2000);
+        check.due("told(7), call 511", x.told(7), 5);
+        check.due("result(0, 1), call 512", x.result(0, 1), 74);
     }
 }
