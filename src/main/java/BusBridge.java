@@ -455,7 +455,7 @@ public final class BusBridge {
         Table(int mostRows, int columns) {
             most = mostRows;
             width = columns;
-            row = new int[mostRows * columns];
+            row = new int[Math.max(0, mostRows * columns)];
         }
 
         boolean isFull() {
